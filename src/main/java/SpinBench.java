@@ -231,9 +231,6 @@ public final class SpinBench {
         if (!isPulse(set, f, q)) {
             return BAD;
         }
-        if (length >= MOST_OPS) {
-            return FULL;
-        }
         return append(new Pulse(length, latestOpen, set, f, q));
     }
 
@@ -241,18 +238,12 @@ public final class SpinBench {
         if (!isPulse(set, f, q) || !within(table, 0, TABLES - 1)) {
             return BAD;
         }
-        if (length >= MOST_OPS) {
-            return FULL;
-        }
         return append(new Cycled(length, latestOpen, set, f, q, table));
     }
 
     public int delay(int product, int k, int way) {
         if (!isProduct(product) || !within(k, 0, LETTERS - 1) || !isWay(way)) {
             return BAD;
-        }
-        if (length >= MOST_OPS) {
-            return FULL;
         }
         return append(new Delay(length, latestOpen, product, k, way));
     }
@@ -264,12 +255,12 @@ public final class SpinBench {
         if (openRounds() >= MOST_OPEN) {
             return STATE;
         }
-        if (length >= MOST_OPS) {
-            return FULL;
-        }
         Round round = new Round(length, latestOpen, often);
-        latestOpen = round;
-        return append(round);
+        int place = append(round);
+        if (place != FULL) {
+            latestOpen = round;
+        }
+        return place;
     }
 
     public int end() {
@@ -277,19 +268,16 @@ public final class SpinBench {
         if (ended == null) {
             return STATE;
         }
-        if (length >= MOST_OPS) {
-            return FULL;
+        int place = append(new End(length, ended));
+        if (place != FULL) {
+            latestOpen = ended.around;
         }
-        latestOpen = ended.around;
-        return append(new End(length, ended));
+        return place;
     }
 
     public int store(int shelf, int number) {
         if (!within(shelf, 0, SHELVES - 1) || !within(number, -MOST_TIMES, MOST_TIMES)) {
             return BAD;
-        }
-        if (length >= MOST_OPS) {
-            return FULL;
         }
         return append(new Store(length, latestOpen, shelf, number));
     }

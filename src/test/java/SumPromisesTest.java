@@ -563,6 +563,33 @@ public final class SumPromisesTest {
         cosineAt0(x, 6, 2);
         due.is("16: 169 rows", x.product(6, 5, 6), 169);
         zerosCountAsRows();
+        threeHundredRows();
+    }
+
+    /** (1 + C0)^11 (1 + C1)^4 times (1 + C2)^4: 12 * 5 times 5 rows; and C3, that comes of x. */
+    private static void threeHundredRows() {
+        SpinBench x = new SpinBench(1);
+        x.add(0, 0, 1);
+        x.add(1, 0, 1);
+        int[] often = {11, 4, 4};
+        for (int k = 0; k < 3; k++) {
+            cosineAt0(x, 2, k);
+            x.add(2, 0, 1);
+            int shelf = k < 2 ? 0 : 1;
+            for (int i = 0; i < often[k]; i++) {
+                x.product(shelf, shelf, 2);
+            }
+        }
+        due.is("16: 60 rows", x.terms(0), 60);
+        due.is("16: 5 rows", x.terms(1), 5);
+        due.is("16: 300 rows", x.product(2, 0, 1), 300);
+        x.add(-1, X, 1);
+        x.letter(Z, 3, 1);
+        x.join(1, -1, 1);
+        due.is("16: 300 rows, and x in one of them", x.product(2, 0, 1), 300);
+        x.add(0, X, 1);
+        due.is("16: 301 rows", x.product(2, 0, 1), FULL);
+        due.is("16: as it was", x.terms(2), 300);
     }
 
     private static void cosineAt0(SpinBench x, int shelf, int k) {
