@@ -831,7 +831,7 @@ public final class SpinBench {
         abstract int perform(SpinBench bench);
 
         boolean isOfKind(int wanted) {
-            return wanted == OP;
+            return wanted == OP || wanted == ownKind();
         }
 
         int cost(SpinBench bench) {
@@ -919,10 +919,6 @@ public final class SpinBench {
             return CYCLED;
         }
 
-        boolean isOfKind(int wanted) {
-            return wanted == CYCLED || super.isOfKind(wanted);
-        }
-
         int cost(SpinBench bench) {
             bench.leaveBody(13);
             int asPulse = super.cost(bench);
@@ -963,10 +959,6 @@ public final class SpinBench {
             return DELAY;
         }
 
-        boolean isOfKind(int wanted) {
-            return wanted == DELAY || super.isOfKind(wanted);
-        }
-
         int mark(SpinBench bench) {
             bench.leaveBody(22);
             return super.mark(bench) + angle;
@@ -990,10 +982,6 @@ public final class SpinBench {
             return ROUND;
         }
 
-        boolean isOfKind(int wanted) {
-            return wanted == ROUND || super.isOfKind(wanted);
-        }
-
         int cost(SpinBench bench) {
             bench.leaveBody(14);
             return often;
@@ -1013,10 +1001,6 @@ public final class SpinBench {
 
         int ownKind() {
             return END;
-        }
-
-        boolean isOfKind(int wanted) {
-            return wanted == END || super.isOfKind(wanted);
         }
 
         int perform(SpinBench bench) {
@@ -1042,10 +1026,6 @@ public final class SpinBench {
 
         int ownKind() {
             return STORE;
-        }
-
-        boolean isOfKind(int wanted) {
-            return wanted == STORE || super.isOfKind(wanted);
         }
 
         int mark(SpinBench bench) {
