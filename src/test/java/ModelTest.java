@@ -54,8 +54,8 @@ public final class ModelTest {
         for (int i = 0; i < CALLS_OF_A_RUN && due.wrong() == 0; i++) {
             String call = drawCall();
             int[] a = drawArguments(call);
-            long got = ofBench(call, a);
-            long want = ofModel(call, a);
+            long got = Calls.answer(bench, call, a);
+            long want = Calls.answer(model, call, a);
             if (want <= -1000000 && want >= -1000020) {
                 refusals.merge(call + " " + want, 1, Integer::sum);
             }
@@ -184,79 +184,5 @@ public final class ModelTest {
 
     private int drawOp() {
         return draw(0, Math.max(0, model.count(1) - 1));
-    }
-
-    private long ofBench(String call, int[] a) {
-        switch (call) {
-            case "table": return bench.table(a[0], a[1], a[2]);
-            case "set": return bench.set(a[0], a[1], a[2]);
-            case "copy": return bench.copy(a[0], a[1], a[2], a[3], a[4]);
-            case "drop": return bench.drop(a[0]);
-            case "clear": return bench.clear(a[0]);
-            case "add": return bench.add(a[0], a[1], a[2]);
-            case "take": return bench.take(a[0], a[1]);
-            case "join": return bench.join(a[0], a[1], a[2]);
-            case "quarter": return bench.quarter(a[0], a[1]);
-            case "letter": return bench.letter(a[0], a[1], a[2]);
-            case "terms": return bench.terms(a[0]);
-            case "number": return bench.number(a[0], a[1]);
-            case "power": return bench.power(a[0], a[1], a[2]);
-            case "same": return bench.same(a[0], a[1]);
-            case "product": return bench.product(a[0], a[1], a[2]);
-            case "digest": return bench.digest(a[0]);
-            case "pulse": return bench.pulse(a[0], a[1], a[2]);
-            case "cycled": return bench.cycled(a[0], a[1], a[2], a[3]);
-            case "delay": return bench.delay(a[0], a[1], a[2]);
-            case "round": return bench.round(a[0]);
-            case "end": return bench.end();
-            case "store": return bench.store(a[0], a[1]);
-            case "back": return bench.back();
-            case "kind": return bench.kind(a[0]);
-            case "is": return bench.is(a[0], a[1]);
-            case "spins": return bench.spins(a[0]);
-            case "ask": return bench.ask(a[0], a[1]);
-            case "trace": return bench.trace(a[0]);
-            case "run": return bench.run();
-            case "told": return bench.told(a[0]);
-            case "count": return bench.count(a[0]);
-            default: return bench.status();
-        }
-    }
-
-    private long ofModel(String call, int[] a) {
-        switch (call) {
-            case "table": return model.table(a[0], a[1], a[2]);
-            case "set": return model.set(a[0], a[1], a[2]);
-            case "copy": return model.copy(a[0], a[1], a[2], a[3], a[4]);
-            case "drop": return model.drop(a[0]);
-            case "clear": return model.clear(a[0]);
-            case "add": return model.add(a[0], a[1], a[2]);
-            case "take": return model.take(a[0], a[1]);
-            case "join": return model.join(a[0], a[1], a[2]);
-            case "quarter": return model.quarter(a[0], a[1]);
-            case "letter": return model.letter(a[0], a[1], a[2]);
-            case "terms": return model.terms(a[0]);
-            case "number": return model.number(a[0], a[1]);
-            case "power": return model.power(a[0], a[1], a[2]);
-            case "same": return model.same(a[0], a[1]);
-            case "product": return model.product(a[0], a[1], a[2]);
-            case "digest": return model.digest(a[0]);
-            case "pulse": return model.pulse(a[0], a[1], a[2]);
-            case "cycled": return model.cycled(a[0], a[1], a[2], a[3]);
-            case "delay": return model.delay(a[0], a[1], a[2]);
-            case "round": return model.round(a[0]);
-            case "end": return model.end();
-            case "store": return model.store(a[0], a[1]);
-            case "back": return model.back();
-            case "kind": return model.kind(a[0]);
-            case "is": return model.is(a[0], a[1]);
-            case "spins": return model.spins(a[0]);
-            case "ask": return model.ask(a[0], a[1]);
-            case "trace": return model.trace(a[0]);
-            case "run": return model.run();
-            case "told": return model.told(a[0]);
-            case "count": return model.count(a[0]);
-            default: return model.status();
-        }
     }
 }

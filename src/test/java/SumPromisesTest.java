@@ -72,22 +72,9 @@ public final class SumPromisesTest {
         due.is("7: as it was", x.terms(3), 2);
     }
 
-    /** A shelf gets 10^12 at a PRODUCT: 10^9 times 10 times 10 times 10. */
-    private static void putMost(SpinBench x, int shelf, int product) {
-        x.clear(shelf);
-        x.add(shelf, product, 1000000000);
-        for (int i = 0; i < 3; i++) {
-            x.take(7, shelf);
-            x.join(shelf, 7, 3);
-            x.join(shelf, 7, 3);
-            x.join(shelf, 7, 3);
-        }
-        x.clear(7);
-    }
-
     private static void addNumbersBeyond() {
         SpinBench x = new SpinBench(1);
-        putMost(x, 0, X);
+        Build.most(x, 0, X);
         due.is("7: most", x.number(0, 0), 1000000000000L);
         due.is("7: one more", x.add(0, X, 1), FULL);
         due.is("7: as it was", x.number(0, 0), 1000000000000L);
@@ -181,7 +168,7 @@ public final class SumPromisesTest {
         due.is("9: itself", x.join(0, 0, 3), 2);
         term("9: four times", x, 0, 0, 8, X);
         due.is("9: itself away", x.join(0, 0, -1), 0);
-        putMost(x, 3, X);
+        Build.most(x, 3, X);
         x.take(4, 3);
         due.is("9: beyond", x.join(4, 3, 1), FULL);
         due.is("9: as it was", x.same(4, 3), 1);
@@ -322,11 +309,11 @@ public final class SumPromisesTest {
             due.is("11: up", x.letter(Z, 0, 1), i == 0 ? 2 : i + 2);
         }
         x.take(0, -1);
-        due.is("11: has C0^12", greatestPower(x, -1, 0), 12);
+        due.is("11: has C0^12", Build.greatestPower(x, -1, 0), 12);
         due.is("11: C0^13", x.letter(Z, 0, 1), FULL);
         due.is("11: as it was", x.same(0, -1), 1);
         due.is("11: backwards the powers beyond add up to 0", x.letter(Z, 0, -1), 12);
-        due.is("11: C0^11 is left", greatestPower(x, -1, 0), 11);
+        due.is("11: C0^11 is left", Build.greatestPower(x, -1, 0), 11);
         due.is("11: another LETTER", x.letter(Z, 1, 1), 24);
         for (int i = 0; i < 11; i++) {
             x.letter(Z, 0, -1);
@@ -336,17 +323,9 @@ public final class SumPromisesTest {
         term("11: x again", x, -1, 0, 1, X);
     }
 
-    private static int greatestPower(SpinBench x, int shelf, int v) {
-        int greatest = 0;
-        for (int t = 0; t < x.terms(shelf); t++) {
-            greatest = Math.max(greatest, x.power(shelf, t, v));
-        }
-        return greatest;
-    }
-
     private static void letterBeyond() {
         SpinBench x = new SpinBench(1);
-        putMost(x, -1, X);
+        Build.most(x, -1, X);
         due.is("11: most", x.letter(Z, 0, 1), 2);
         x.take(0, -1);
         due.is("11: 2 10^12 C0 S0", x.letter(Z, 0, 1), FULL);
@@ -475,7 +454,7 @@ public final class SumPromisesTest {
         x.add(0, X, 1);
         due.is("16: a number beyond", x.product(1, 0, 0), FULL);
         due.is("16: as it was", x.number(1, 0), 1000000000000L);
-        putMost(x, 2, X);
+        Build.most(x, 2, X);
         due.is("16: far beyond what a long has", x.product(1, 2, 2), FULL);
         x.clear(3);
         x.add(3, X, -1);
@@ -534,15 +513,15 @@ public final class SumPromisesTest {
         for (int i = 0; i < 12; i++) {
             y.letter(i % 2 == 0 ? X : Y, 0, 1);
         }
-        due.is("16: C0^12 is there", greatestPower(y, -1, 0), 12);
+        due.is("16: C0^12 is there", Build.greatestPower(y, -1, 0), 12);
         due.is("16: its length can not be told", y.product(0, -1, -1), FULL);
     }
 
     private static void productRows() {
         // C0^a C1^b for a, b 0 .. 12: 169 rows; times C2, S2, 1: more than 300 unlike rows.
         SpinBench x = new SpinBench(1);
-        cosineAt0(x, 0, 0);
-        cosineAt0(x, 1, 1);
+        Build.cosine(x, 0, 0);
+        Build.cosine(x, 1, 1);
         x.clear(4);
         x.add(4, 0, 1);
         x.join(0, 4, 1);
@@ -555,12 +534,12 @@ public final class SumPromisesTest {
         }
         due.is("16: (1 + C0)^12", x.terms(2), 13);
         due.is("16: (1 + C0)^12 (1 + C1)^12", x.product(5, 2, 3), 169);
-        cosineAt0(x, 0, 2);
+        Build.cosine(x, 0, 2);
         x.join(0, 4, 1);
         due.is("16: 338 rows", x.product(6, 5, 0), FULL);
         due.is("16: nothing came", x.terms(6), 0);
         x.clear(6);
-        cosineAt0(x, 6, 2);
+        Build.cosine(x, 6, 2);
         due.is("16: 169 rows", x.product(6, 5, 6), 169);
         zerosCountAsRows();
         threeHundredRows();
@@ -573,7 +552,7 @@ public final class SumPromisesTest {
         x.add(1, 0, 1);
         int[] often = {11, 4, 4};
         for (int k = 0; k < 3; k++) {
-            cosineAt0(x, 2, k);
+            Build.cosine(x, 2, k);
             x.add(2, 0, 1);
             int shelf = k < 2 ? 0 : 1;
             for (int i = 0; i < often[k]; i++) {
@@ -590,16 +569,6 @@ public final class SumPromisesTest {
         x.add(0, X, 1);
         due.is("16: 301 rows", x.product(2, 0, 1), FULL);
         due.is("16: as it was", x.terms(2), 300);
-    }
-
-    private static void cosineAt0(SpinBench x, int shelf, int k) {
-        x.clear(-1);
-        x.add(-1, X, 1);
-        x.letter(Z, k, 1);
-        x.clear(shelf);
-        x.add(shelf, X, 1);
-        x.product(shelf, -1, shelf);
-        x.clear(-1);
     }
 
     /** Rows that add up to 0 count: x and xx are turned alike, and xx has the other sign in the other factor. */

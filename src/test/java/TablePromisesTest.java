@@ -57,26 +57,8 @@ public final class TablePromisesTest {
         due.is("2: copied from it", x.table(1, 2, 1), 1);
         due.is("2: mark", x.set(1, 0, 5), 5);
         due.is("2: items are 0 again", x.copy(0, 59, 1, 0, 1), 1);
-        due.is("2: pulse by the item", itemOf(x, 1), 0);
+        due.is("2: pulse by the item", Build.firstItem(x, 1), 0);
         due.is("2: count", x.count(2), 4);
-    }
-
-    /** ITEM 0 modulo 4, as a CYCLED PULSE about it turns z: x to -y, y to x, -x to y, -y to -x. */
-    private static int itemOf(SpinBench x, int table) {
-        x.clear(-1);
-        x.add(-1, 3, 1);
-        int place = x.cycled(1, 0, 1, table);
-        x.run();
-        x.back();
-        if (place < 0) {
-            return place;
-        }
-        int axis = x.power(-1, 0, -1);
-        long number = x.number(-1, 0);
-        if (axis == 2) {
-            return number < 0 ? 0 : 2;
-        }
-        return number > 0 ? 1 : 3;
     }
 
     private static void set() {
@@ -106,7 +88,7 @@ public final class TablePromisesTest {
         x.table(4, 0, 0);
         due.is("3: empty", x.set(4, 0, 7), PLACE);
         x.set(0, 0, 6);
-        due.is("3: kept", itemOf(x, 0), 2);
+        due.is("3: kept", Build.firstItem(x, 0), 2);
     }
 
     private static void copy() {
@@ -139,7 +121,7 @@ public final class TablePromisesTest {
         for (int i = 0; i < 4; i++) {
             x.table(3, 0, 1);
             x.copy(1, i, 3, 0, 1);
-            due.is("4: item " + i, itemOf(x, 3), (i + 1) % 4);
+            due.is("4: item " + i, Build.firstItem(x, 3), (i + 1) % 4);
         }
         overlap();
     }
@@ -157,7 +139,7 @@ public final class TablePromisesTest {
             due.is("4: on itself", x.copy(0, moves[m][0], 0, moves[m][1], moves[m][2]), moves[m][2]);
             for (int i = 0; i < 5; i++) {
                 x.copy(0, i, 1, 0, 1);
-                due.is("4: move " + m + " item " + i, itemOf(x, 1), want[m][i]);
+                due.is("4: move " + m + " item " + i, Build.firstItem(x, 1), want[m][i]);
             }
         }
     }
