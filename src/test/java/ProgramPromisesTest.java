@@ -460,34 +460,6 @@ public final class ProgramPromisesTest {
             more++;
         }
         due.is("30: up to 495", y.run(), 495);
-        exactlyFiveHundred();
-    }
-
-    private static void exactlyFiveHundred() {
-        // 1 + 8 (1 + 8 * 7 + 1) = 465 and 35 more: a ROUND of 8 with 4 OPS and its END (1 + 8 * 4 = 33), and 2
-        SpinBench x = new SpinBench(1);
-        x.round(8);
-        x.round(8);
-        for (int i = 0; i < 6; i++) {
-            x.pulse(1, 0, 0);
-        }
-        x.end();
-        x.end();
-        x.round(8);
-        for (int i = 0; i < 3; i++) {
-            x.pulse(1, 0, 0);
-        }
-        x.end();
-        x.pulse(1, 0, 0);
-        due.is("30: the last one's place", x.pulse(1, 0, 0), 16);
-        due.is("30: 500", x.run(), 500);
-        due.is("31: 500", x.told(0), 500);
-        due.is("31: the last one", x.told(1), 16);
-        x.cycled(1, 0, 0, 5);
-        due.is("30: 501", x.run(), FULL);
-        due.is("31: 500 of 501", x.told(0), 500);
-        due.is("31: the 501st is not begun", x.told(1), 16);
-        due.is("33: no status of FULL", x.status(), 0);
     }
 
     private static void runFull() {

@@ -43,6 +43,7 @@ public final class SumEdgesTest {
         productNumbersOfMost();
         productPowersOfAllLetters();
         productPowersBeyondThatAddUpToZero();
+        productSquaresBeyondThatAddUpToZero();
         productSquaresOfAllSines();
         productRowsUpToThreeHundred();
         productRowsThatAddUpToZero();
@@ -552,6 +553,14 @@ public final class SumEdgesTest {
         x.add(0, 248, -5);
         x.add(0, 252, 5);
         due.is("15: the same", x.same(-1, 0), 1);
+        x.add(0, 0, 1);
+        x.add(-1, 4, 1);
+        due.is("15: the first PRODUCT", x.same(-1, 0), 0);
+        x.add(-1, 4, -1);
+        x.add(-1, 0, 2);
+        due.is("15: the first number", x.same(-1, 0), 0);
+        x.add(-1, 0, -1);
+        due.is("15: the same again", x.same(-1, 0), 1);
         x.letter(X, 1, -1);
         x.letter(X, 2, 1);
         due.is("15: powers", x.same(-1, 0), 0);
@@ -671,6 +680,27 @@ public final class SumEdgesTest {
             // What comes of xx is minus now, so that it takes away what comes of x.
             x.quarter(4 * Z, 2);
             due.is("16: C3^" + 2 * power + " less C3^" + 2 * power, x.product(3, 2, -1), power == 6 ? 0 : FULL);
+        }
+    }
+
+    /** "with each Sk Sk as 1 less Ck Ck, one has a .. power beyond": C0^6 S0 times itself has C0^14, that adds up to 0. */
+    private static void productSquaresBeyondThatAddUpToZero() {
+        for (int often = 6; often <= 7; often++) {
+            SpinBench x = new SpinBench(2);
+            // Forwards less backwards the cosines go: sines of so many times the angle are left, all of them with S0.
+            for (int way = -1; way <= 1; way += 2) {
+                x.clear(-1);
+                x.add(-1, X, 1);
+                x.add(-1, X + 4 * X, 1);
+                for (int i = 0; i < often; i++) {
+                    x.letter(Z, 0, way);
+                }
+                x.join(0, -1, way);
+            }
+            due.is("9: the greatest power of C0", Build.greatestPower(x, 0, 0), often - 1);
+            x.take(-1, 0);
+            x.quarter(4 * Z, 2);
+            due.is("16: C0^" + (2 * often - 2) + " S0^2 adds up to 0", x.product(1, 0, -1), often == 6 ? 0 : FULL);
         }
     }
 
